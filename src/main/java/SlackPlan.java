@@ -631,16 +631,12 @@ public final class SlackPlan {
                 }
             }
             for (int place = 0; place < size && place < MAX_TASKS; place++) {
-                passOn(plan, tasks[place]);
-            }
-        }
-
-        private void passOn(State plan, int from) {
-            for (int to = 0; to < plan.tasks; to++) {
-                if (plan.lag(from, to) != NONE) {
-                    waiting[to]--;
-                    if (waiting[to] == 0) {
-                        put(to);
+                for (int to = 0; to < plan.tasks; to++) {
+                    if (plan.lag(tasks[place], to) != NONE) {
+                        waiting[to]--;
+                        if (waiting[to] == 0) {
+                            put(to);
+                        }
                     }
                 }
             }
