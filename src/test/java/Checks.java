@@ -2,8 +2,18 @@
 final class Checks {
     private static int done = 0;
     private static int wrong = 0;
+    // What the checks that follow are for; printed with each complaint.
+    private static String subject = "";
 
     private Checks() {
+    }
+
+    static void about(String what) {
+        subject = what;
+    }
+
+    static int count() {
+        return done;
     }
 
     static void same(String what, long got, long due) {
@@ -100,7 +110,7 @@ final class Checks {
         done++;
         if (!right) {
             wrong++;
-            System.out.println(complaint);
+            System.out.println(subject.isEmpty() ? complaint : complaint + "\n  for: " + subject);
         }
     }
 }
